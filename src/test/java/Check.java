@@ -1,0 +1,31 @@
+/** Compares answers with those that are due, and tells the ones that differ. */
+final class Check {
+    private static final int MOST_TOLD = 40;
+    private int compared = 0;
+    private int wrong = 0;
+
+    void due(String call, double got, double want) {
+        compared++;
+        if (Double.compare(got, want) == 0) {
+            return;
+        }
+        wrong++;
+        if (wrong <= MOST_TOLD) {
+            System.out.println(call + " answered " + got + ", due is " + want);
+        }
+    }
+
+    void holds(String claim, boolean really) {
+        due(claim, really ? 1 : 0, 1);
+    }
+
+    boolean isFine() {
+        return wrong == 0;
+    }
+
+    /** Ends the program, with exit code 1 if an answer was not as due. */
+    void end() {
+        System.out.println(compared + " answers compared, " + wrong + " not as due");
+        System.exit(wrong == 0 && compared > 0 ? 0 : 1);
+    }
+}

@@ -449,7 +449,7 @@ public final class ForgettingArchive {
         }
 
         boolean comesBefore(int file, int day, int place) {
-            return day < days[place] || day == days[place] && file < files[place];
+            return day < days[place] || (day == days[place] && file < files[place]);
         }
 
         void removeAt(int place) {

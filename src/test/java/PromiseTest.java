@@ -32,6 +32,7 @@ public final class PromiseTest {
         why();
         undo();
         undoDepth();
+        undoAfterReuse();
         undoBringsBackAll();
         now();
         count();
@@ -763,6 +764,37 @@ public final class PromiseTest {
         due("without the last one", x.count(2), 1 + 2);
     }
 
+    private static void undoAfterReuse() {
+        begin("16 undo, places used again");
+        ForgettingArchive x = withFiles(13, 0, 1);
+        x.reserve(0, 200);
+        x.reserve(1, 100);
+        x.seal(0, 0, 95);
+        x.ask(2);
+        x.pass(90);
+        String before = seen(x);
+        x.cancel(1, 100);
+        x.cancel(0, 200);
+        x.pass(90);
+        due("the list of traces moved on", x.trace(11, 0), 3);
+        x.undo();
+        x.undo();
+        due("undo of the first cancel", x.undo(), 1);
+        check.holds(promise + "all is as before", before.equals(seen(x)));
+
+        ForgettingArchive fresh = withFiles(1, 0, 1);
+        fresh.ask(0);
+        fresh.seal(5, 0, -1);
+        fresh.refer(0, 0);
+        fresh.lift(5, 0);
+        fresh.pass(90);
+        fresh.add(1, 2);
+        int[] want = {1, 2, 90, NONE, 0, NONE, 270, 0, 0, 0};
+        for (int what = 0; what < 10; what++) {
+            due("a new file after a burning, " + what, fresh.file(1, what), want[what]);
+        }
+    }
+
     private static void undoBringsBackAll() {
         begin("16 undo, all of the state");
         for (int action = 0; action < 10; action++) {
@@ -1093,8 +1125,10 @@ public final class PromiseTest {
         due("due on the day 2950", far.burntIn(0), 2970);
         far.set(4, 1490);
         due("due on the day 2980", far.burntIn(0), NONE);
-        far.pass(60);
-        due("in 3000 days just after that", far.burntIn(0), 3000);
+        far.pass(59);
+        due("in 3001 days", far.burntIn(0), NONE);
+        far.pass(1);
+        due("in 3000 days", far.burntIn(0), 3000);
 
         // Days after 9999 are like others, and seals without an end still hold on them.
         ForgettingArchive late = new ForgettingArchive();

@@ -183,6 +183,14 @@ final class Oracle {
     private String text = "";
     private int[] report = null;
 
+    int lengthOfText() {
+        return text.length();
+    }
+
+    int statesHeld() {
+        return history.size();
+    }
+
     /** Does one call, by its name in the document. */
     int call(String name, int... a) {
         switch (name) {

@@ -4,7 +4,6 @@ public final class PromiseTest {
     private static final int[] EXTREMES = {Integer.MIN_VALUE, Integer.MIN_VALUE + 1, Integer.MAX_VALUE};
 
     private static final Check check = new Check();
-    private static String promise = "";
 
     private PromiseTest() {
     }
@@ -52,53 +51,22 @@ public final class PromiseTest {
     }
 
     private static void begin(String name) {
-        promise = name + ": ";
+        check.begin(name);
     }
 
     private static void due(String call, double got, double want) {
-        check.due(promise + call, got, want);
-    }
-
-    /** An archive with so many files of a kind and so many pages each. */
-    private static ForgettingArchive withFiles(int files, int kind, int pages) {
-        ForgettingArchive x = new ForgettingArchive();
-        for (int i = 0; i < files; i++) {
-            x.add(kind, pages);
-        }
-        return x;
-    }
-
-    private static void write(ForgettingArchive x, String text) {
-        x.clearText();
-        for (char sign : text.toCharArray()) {
-            x.append(sign);
-        }
+        check.due(call, got, want);
     }
 
     private static void dueFault(String text, int want) {
-        ForgettingArchive x = new ForgettingArchive();
-        write(x, text);
+        Archive x = new Archive();
+        x.write(text);
         due("fault of " + text, x.fault(), want);
         due("run of " + text + " is BAD_TEXT", x.run() == BAD_TEXT ? 1 : 0, want == NONE ? 0 : 1);
     }
 
-    private static void letPass(ForgettingArchive x, int days) {
-        for (int left = days; left > 0; left -= 400) {
-            x.pass(Math.min(left, 400));
-        }
-    }
-
-    /** How many states are in the history; they are used up by this. */
-    private static int historyOf(ForgettingArchive x) {
-        int states = 0;
-        while (states < 100 && x.undo() != NONE) {
-            states++;
-        }
-        return states;
-    }
-
     /** All that can be seen of the state, as one text. */
-    private static String seen(ForgettingArchive x) {
+    private static String seen(Archive x) {
         StringBuilder all = new StringBuilder().append(x.now()).append(' ').append(x.meanAge());
         for (int what = 0; what < 10; what++) {
             all.append(" c").append(x.count(what));
@@ -131,7 +99,7 @@ public final class PromiseTest {
 
     private static void newObject() {
         begin("1 new object");
-        ForgettingArchive x = new ForgettingArchive();
+        Archive x = new Archive();
         due("now", x.now(), 0);
         for (int what = 0; what < 10; what++) {
             due("count(" + what + ")", x.count(what), 0);
@@ -148,7 +116,7 @@ public final class PromiseTest {
         for (int setting = 0; setting < 7; setting++) {
             due("setting(" + setting + ")", x.setting(setting), firstValues[setting]);
         }
-        ForgettingArchive other = new ForgettingArchive();
+        Archive other = new Archive();
         other.add(0, 1);
         other.append('a');
         due("files of another object", x.count(0), 0);
@@ -157,7 +125,7 @@ public final class PromiseTest {
 
     private static void addRanges() {
         begin("2 add");
-        ForgettingArchive x = new ForgettingArchive();
+        Archive x = new Archive();
         due("add(0, 1)", x.add(0, 1), 0);
         due("add(4, 50)", x.add(4, 50), 1);
         due("add(-1, 1)", x.add(-1, 1), BAD_VALUE);
@@ -181,7 +149,7 @@ public final class PromiseTest {
 
     private static void addRoom() {
         begin("2 add, room");
-        ForgettingArchive x = withFiles(23, 0, 1);
+        Archive x = Archive.withFiles(23, 0, 1);
         due("the 24th file", x.add(0, 1), 23);
         due("the 25th file", x.add(0, 1), TOO_MANY);
         due("a bad one then", x.add(0, 0), BAD_VALUE);
@@ -189,7 +157,7 @@ public final class PromiseTest {
         due("after the burning", x.add(0, 1), 24);
         due("no reference is left over", x.file(24, 5), NONE);
 
-        ForgettingArchive shelf = withFiles(5, 0, 50);
+        Archive shelf = Archive.withFiles(5, 0, 50);
         due("add(0, 49)", shelf.add(0, 49), 5);
         due("two pages too many", shelf.add(0, 2), TOO_MANY);
         due("just as many as SHELF", shelf.add(0, 1), 6);
@@ -197,7 +165,7 @@ public final class PromiseTest {
         shelf.set(ForgettingArchive.SHELF, 50);
         due("files of a smaller shelf", shelf.count(0), 7);
 
-        ForgettingArchive many = new ForgettingArchive();
+        Archive many = new Archive();
         for (int i = 0; i < 200; i++) {
             due("file " + i, many.add(0, 1), i);
             if (many.count(0) == 24) {
@@ -214,7 +182,7 @@ public final class PromiseTest {
 
     private static void ask() {
         begin("3 ask");
-        ForgettingArchive x = withFiles(2, 0, 1);
+        Archive x = Archive.withFiles(2, 0, 1);
         x.pass(50);
         due("ask(0)", x.ask(0), 1);
         due("ask(0) again", x.ask(0), 2);
@@ -240,7 +208,7 @@ public final class PromiseTest {
 
     private static void seal() {
         begin("4 seal");
-        ForgettingArchive x = withFiles(1, 0, 1);
+        Archive x = Archive.withFiles(1, 0, 1);
         due("seal(0, 0, 10)", x.seal(0, 0, 10), 1);
         due("seal(7, 0, -1)", x.seal(7, 0, -1), 2);
         due("replaced by one without an end", x.seal(0, 0, -1), 2);
@@ -266,14 +234,14 @@ public final class PromiseTest {
             due("seal(0, extreme, -1)", x.seal(0, extreme, -1), NO_SUCH);
             due("seal(0, 0, extreme)", x.seal(0, 0, extreme), BAD_VALUE);
         }
-        letPass(x, 9999 - 6);
+        x.letPass(9999 - 6);
         due("on the day 9999", x.seal(4, 0, 9999), 3);
         due("before it", x.seal(4, 0, 9998), BAD_VALUE);
     }
 
     private static void lift() {
         begin("5 lift");
-        ForgettingArchive x = withFiles(2, 4, 1);
+        Archive x = Archive.withFiles(2, 4, 1);
         x.seal(0, 0, 3);
         x.seal(1, 0, -1);
         x.seal(2, 0, 20);
@@ -296,7 +264,7 @@ public final class PromiseTest {
 
     private static void refer() {
         begin("6 refer");
-        ForgettingArchive x = withFiles(3, 0, 1);
+        Archive x = Archive.withFiles(3, 0, 1);
         due("refer(0, 1)", x.refer(0, 1), 1);
         due("refer(2, 1)", x.refer(2, 1), 2);
         due("to itself", x.refer(1, 1), 3);
@@ -323,7 +291,7 @@ public final class PromiseTest {
 
     private static void reserve() {
         begin("7 reserve");
-        ForgettingArchive x = withFiles(2, 0, 1);
+        Archive x = Archive.withFiles(2, 0, 1);
         x.pass(3);
         due("on the day of now", x.reserve(0, 3), BAD_VALUE);
         due("on the next day", x.reserve(0, 4), 1);
@@ -355,7 +323,7 @@ public final class PromiseTest {
 
     private static void cancel() {
         begin("8 cancel");
-        ForgettingArchive x = withFiles(2, 0, 1);
+        Archive x = Archive.withFiles(2, 0, 1);
         x.reserve(0, 4);
         x.reserve(1, 4);
         x.reserve(0, 6);
@@ -378,7 +346,7 @@ public final class PromiseTest {
 
     private static void pass() {
         begin("9 pass");
-        ForgettingArchive x = withFiles(3, 0, 2);
+        Archive x = Archive.withFiles(3, 0, 2);
         due("pass(0)", x.pass(0), BAD_VALUE);
         due("pass(-1)", x.pass(-1), BAD_VALUE);
         due("pass(401)", x.pass(401), BAD_VALUE);
@@ -391,13 +359,13 @@ public final class PromiseTest {
         due("burnings", x.count(7), 1);
         due("pass(400)", x.pass(400), 0);
         due("burnings with nothing to burn count", x.count(7), 5);
-        letPass(x, 9999 - 490);
+        x.letPass(9999 - 490);
         due("now", x.now(), 9999);
         due("one day more", x.pass(1), NOT_POSSIBLE);
         due("too many days more", x.pass(401), BAD_VALUE);
 
-        ForgettingArchive late = new ForgettingArchive();
-        letPass(late, 9600);
+        Archive late = new Archive();
+        late.letPass(9600);
         due("one too many", late.pass(400), NOT_POSSIBLE);
         due("now stays", late.now(), 9600);
         due("just as many", late.pass(399), 0);
@@ -407,13 +375,13 @@ public final class PromiseTest {
     private static void burningReasons() {
         begin("9 pass, who stays");
         // Due on the day of the burning: burnt. Due a day later: stays.
-        ForgettingArchive due = withFiles(1, 0, 1);
+        Archive due = Archive.withFiles(1, 0, 1);
         due.pass(1);
         due.add(0, 1);
         due("due on the day", due.pass(89), 1);
         due("due a day later", due.fileAt(0), 1);
 
-        ForgettingArchive seals = withFiles(3, 0, 1);
+        Archive seals = Archive.withFiles(3, 0, 1);
         seals.seal(0, 0, 89);
         seals.seal(0, 1, 90);
         seals.seal(0, 2, -1);
@@ -422,13 +390,13 @@ public final class PromiseTest {
         due("at the next burning", seals.pass(90), 1);
         due("sealed for ever", seals.fileAt(0), 2);
 
-        ForgettingArchive reserved = withFiles(2, 0, 1);
+        Archive reserved = Archive.withFiles(2, 0, 1);
         reserved.reserve(0, 91);
         due("reserved for the next day", reserved.pass(90), 1);
         due("the reservation is kept", reserved.count(8), 1);
 
         // 3 -> 2 -> 1 -> 0 and a circle of 4 and 5: the chain stays by its head.
-        ForgettingArchive chain = withFiles(6, 0, 1);
+        Archive chain = Archive.withFiles(6, 0, 1);
         chain.refer(3, 2);
         chain.refer(2, 1);
         chain.refer(1, 0);
@@ -440,7 +408,7 @@ public final class PromiseTest {
         chain.lift(6, 3);
         due("without its head's seal it is burnt", chain.pass(90), 4);
 
-        ForgettingArchive self = withFiles(1, 0, 1);
+        Archive self = Archive.withFiles(1, 0, 1);
         self.refer(0, 0);
         due("a file that refers to itself", self.pass(90), 1);
     }
@@ -448,13 +416,13 @@ public final class PromiseTest {
     private static void burningOrder() {
         begin("9 pass, order of a day");
         // The reservation of the day of the burning is treated first, and makes its file young.
-        ForgettingArchive x = withFiles(2, 0, 1);
+        Archive x = Archive.withFiles(2, 0, 1);
         x.reserve(1, 90);
         due("asked before the burning", x.pass(90), 1);
         due("it was asked on that day", x.file(1, 3), 90);
         due("no reservation is left", x.count(8), 0);
 
-        ForgettingArchive traces = withFiles(14, 0, 3);
+        Archive traces = Archive.withFiles(14, 0, 3);
         traces.pass(1);
         traces.ask(13);
         due("all but one", traces.pass(89), 13);
@@ -467,7 +435,7 @@ public final class PromiseTest {
         due("burnt", traces.count(3), 14);
 
         // Kind 1 is due on the day 180, so a middle file is burnt and the others keep their order.
-        ForgettingArchive gap = new ForgettingArchive();
+        Archive gap = new Archive();
         gap.add(1, 1);
         gap.add(0, 2);
         gap.add(1, 4);
@@ -481,7 +449,7 @@ public final class PromiseTest {
 
     private static void set() {
         begin("10 set");
-        ForgettingArchive x = withFiles(1, 0, 1);
+        Archive x = Archive.withFiles(1, 0, 1);
         int[] lowest = {30, 30, 30, 30, 30, 1, 50};
         int[] highest = {2000, 2000, 2000, 2000, 2000, 20, 600};
         int[] first = {90, 180, 360, 720, 1440, 3, 300};
@@ -508,7 +476,7 @@ public final class PromiseTest {
 
     private static void append() {
         begin("11 append");
-        ForgettingArchive x = new ForgettingArchive();
+        Archive x = new Archive();
         due("append(31)", x.append(31), BAD_VALUE);
         due("append(127)", x.append(127), BAD_VALUE);
         for (int extreme : EXTREMES) {
@@ -528,9 +496,9 @@ public final class PromiseTest {
 
     private static void clearText() {
         begin("12 clearText");
-        ForgettingArchive x = new ForgettingArchive();
+        Archive x = new Archive();
         due("of the empty text", x.clearText(), 0);
-        write(x, "a0;a0");
+        x.write("a0;a0");
         due("of five characters", x.clearText(), 5);
         due("again", x.clearText(), 0);
         due("the fault then", x.fault(), 0);
@@ -633,8 +601,8 @@ public final class PromiseTest {
 
     private static void run() {
         begin("14 run");
-        ForgettingArchive x = new ForgettingArchive();
-        write(x, "n1,7;n0,9;s2,0;f0,1;a1;d90");
+        Archive x = new Archive();
+        x.write("n1,7;n0,9;s2,0;f0,1;a1;d90");
         due("run", x.run(), 6);
         due("the kind", x.file(0, 0), 1);
         due("the pages", x.file(1, 1), 9);
@@ -647,43 +615,43 @@ public final class PromiseTest {
         due("one state is recorded", x.undo(), 0);
         due("all is as before", x.count(1), 0);
         due("it can be run again", x.run(), 6);
-        write(x, "l2,0");
+        x.write("l2,0");
         due("lift", x.run(), 1);
         due("the seal is gone", x.sealOf(2, 0), NONE);
-        write(x, "a199");
+        x.write("a199");
         due("no order executed", x.run(), 0);
-        due("that is an action, too", historyOf(x), 3);
-        write(x, "a0;a");
+        due("that is an action, too", x.usedUpHistory(), 3);
+        x.write("a0;a");
         due("a text with a fault", x.run(), BAD_TEXT);
         due("it is no action", x.undo(), NONE);
     }
 
     private static void runErrors() {
         begin("14 run, up to an error");
-        ForgettingArchive x = new ForgettingArchive();
-        write(x, "n0,1;d90;a0;n0,2;a9;n0,3");
+        Archive x = new Archive();
+        x.write("n0,1;d90;a0;n0,2;a9;n0,3");
         due("an asking for a burnt file is executed", x.run(), 4);
         due("what comes after is not", x.count(1), 2);
         due("regrets", x.count(6), 1);
         due("the text stays", x.clearText(), 24);
 
-        ForgettingArchive late = new ForgettingArchive();
-        letPass(late, 9600);
-        write(late, "d399;d1");
+        Archive late = new Archive();
+        late.letPass(9600);
+        late.write("d399;d1");
         due("a day above 9999", late.run(), 1);
         due("its error", late.why(2), -NOT_POSSIBLE);
 
-        ForgettingArchive full = new ForgettingArchive();
-        write(full, "n0,50;n0,50;n0,50;n0,50;n0,50;n0,49;n0,1;n0,1;n0,1");
+        Archive full = new Archive();
+        full.write("n0,50;n0,50;n0,50;n0,50;n0,50;n0,49;n0,1;n0,1;n0,1");
         due("a full shelf", full.run(), 7);
         due("its error", full.why(2), -TOO_MANY);
 
-        ForgettingArchive most = withFiles(1, 0, 1);
-        write(most, "a0;a0;a0;a0;a0;a0;a0;a0;a0;a0;a0;a0;a0;a0;a0;a0;a0;a0;a0;a0");
+        Archive most = Archive.withFiles(1, 0, 1);
+        most.write("a0;a0;a0;a0;a0;a0;a0;a0;a0;a0;a0;a0;a0;a0;a0;a0;a0;a0;a0;a0");
         due("twenty orders", most.run(), 20);
         due("askings", most.count(5), 20);
         for (String order : new String[] {"s0,9", "l0,0", "l0,9", "f0,9", "f9,0"}) {
-            write(most, order);
+            most.write(order);
             due(order, most.run(), 0);
             due("the error of " + order, most.why(2), -NO_SUCH);
         }
@@ -691,32 +659,32 @@ public final class PromiseTest {
 
     private static void why() {
         begin("15 why");
-        ForgettingArchive x = withFiles(1, 0, 1);
+        Archive x = Archive.withFiles(1, 0, 1);
         due("before any run", x.why(1), NONE);
         due("why(-1)", x.why(-1), BAD_VALUE);
         due("why(3)", x.why(3), BAD_VALUE);
         for (int extreme : EXTREMES) {
             due("why(extreme)", x.why(extreme), BAD_VALUE);
         }
-        write(x, "a9");
+        x.write("a9");
         x.run();
         due("the first order", x.why(0), 0);
         due("its character", x.why(1), 0);
         due("its error", x.why(2), 1);
-        write(x, "a0;s1,0;f0,77;d1");
+        x.write("a0;s1,0;f0,77;d1");
         x.run();
         due("the third order", x.why(0), 2);
         due("its character", x.why(1), 8);
         due("its error", x.why(2), 1);
         due("why(3)", x.why(3), BAD_VALUE);
-        write(x, "a0;");
+        x.write("a0;");
         x.run();
         due("a run with BAD_TEXT leaves the report", x.why(1), 8);
         x.clearText();
         x.undo();
         x.ask(0);
         due("so do clearText, undo and actions", x.why(1), 8);
-        write(x, "a0");
+        x.write("a0");
         x.run();
         for (int what = 0; what < 3; what++) {
             due("all orders were executed", x.why(what), NONE);
@@ -727,7 +695,7 @@ public final class PromiseTest {
 
     private static void undo() {
         begin("16 undo");
-        ForgettingArchive x = new ForgettingArchive();
+        Archive x = new Archive();
         due("with an empty history", x.undo(), NONE);
         x.add(0, 1);
         x.set(6, 300);
@@ -738,7 +706,7 @@ public final class PromiseTest {
         due("no more to undo", x.undo(), NONE);
         due("its number is free again", x.add(1, 2), 0);
         due("the new one's kind", x.file(0, 0), 1);
-        write(x, "a0");
+        x.write("a0");
         x.run();
         x.undo();
         due("the text stays", x.clearText(), 2);
@@ -746,7 +714,7 @@ public final class PromiseTest {
 
     private static void undoDepth() {
         begin("16 undo, depth");
-        ForgettingArchive x = new ForgettingArchive();
+        Archive x = new Archive();
         for (int i = 0; i < 6; i++) {
             x.add(0, i + 1);
         }
@@ -766,7 +734,7 @@ public final class PromiseTest {
 
     private static void undoAfterReuse() {
         begin("16 undo, places used again");
-        ForgettingArchive x = withFiles(13, 0, 1);
+        Archive x = Archive.withFiles(13, 0, 1);
         x.reserve(0, 200);
         x.reserve(1, 100);
         x.seal(0, 0, 95);
@@ -780,9 +748,9 @@ public final class PromiseTest {
         x.undo();
         x.undo();
         due("undo of the first cancel", x.undo(), 1);
-        check.holds(promise + "all is as before", before.equals(seen(x)));
+        check.holds("all is as before", before.equals(seen(x)));
 
-        ForgettingArchive fresh = withFiles(1, 0, 1);
+        Archive fresh = Archive.withFiles(1, 0, 1);
         fresh.ask(0);
         fresh.seal(5, 0, -1);
         fresh.refer(0, 0);
@@ -798,7 +766,7 @@ public final class PromiseTest {
     private static void undoBringsBackAll() {
         begin("16 undo, all of the state");
         for (int action = 0; action < 10; action++) {
-            ForgettingArchive x = withFiles(4, 0, 3);
+            Archive x = Archive.withFiles(4, 0, 3);
             x.pass(30);
             x.add(1, 5);
             x.ask(1);
@@ -817,17 +785,17 @@ public final class PromiseTest {
                 case 6: x.cancel(3, 95); break;
                 case 7: x.pass(400); break;
                 case 8: x.set(0, 2000); break;
-                default: write(x, "a0;a1;n0,2;d300;n1,1"); x.run(); break;
+                default: x.write("a0;a1;n0,2;d300;n1,1"); x.run(); break;
             }
-            check.holds(promise + "action " + action + " can be seen", !before.equals(seen(x)));
+            check.holds("action " + action + " can be seen", !before.equals(seen(x)));
             due("undo", x.undo(), 3);
-            check.holds(promise + "action " + action + " is undone", before.equals(seen(x)));
+            check.holds("action " + action + " is undone", before.equals(seen(x)));
         }
     }
 
     private static void now() {
         begin("17 now");
-        ForgettingArchive x = new ForgettingArchive();
+        Archive x = new Archive();
         due("at first", x.now(), 0);
         x.pass(1);
         due("a day later", x.now(), 1);
@@ -842,7 +810,7 @@ public final class PromiseTest {
 
     private static void count() {
         begin("18 count");
-        ForgettingArchive x = withFiles(3, 0, 4);
+        Archive x = Archive.withFiles(3, 0, 4);
         x.add(4, 7);
         x.ask(0);
         x.ask(3);
@@ -865,7 +833,7 @@ public final class PromiseTest {
 
     private static void fileAt() {
         begin("19 fileAt");
-        ForgettingArchive x = withFiles(2, 0, 1);
+        Archive x = Archive.withFiles(2, 0, 1);
         x.add(1, 1);
         due("fileAt(0)", x.fileAt(0), 0);
         due("fileAt(2)", x.fileAt(2), 2);
@@ -881,7 +849,7 @@ public final class PromiseTest {
 
     private static void file() {
         begin("20 file");
-        ForgettingArchive x = new ForgettingArchive();
+        Archive x = new Archive();
         x.pass(5);
         x.add(3, 20);
         x.add(0, 1);
@@ -921,7 +889,7 @@ public final class PromiseTest {
 
     private static void sealOf() {
         begin("21 sealOf");
-        ForgettingArchive x = withFiles(2, 4, 1);
+        Archive x = Archive.withFiles(2, 4, 1);
         x.seal(0, 0, 0);
         x.seal(1, 0, 9999);
         x.seal(2, 0, -1);
@@ -944,7 +912,7 @@ public final class PromiseTest {
 
     private static void trace() {
         begin("22 trace");
-        ForgettingArchive x = new ForgettingArchive();
+        Archive x = new Archive();
         x.add(0, 11);
         x.add(1, 22);
         x.ask(1);
@@ -970,7 +938,7 @@ public final class PromiseTest {
 
     private static void reservation() {
         begin("23 reservation");
-        ForgettingArchive x = withFiles(3, 0, 1);
+        Archive x = Archive.withFiles(3, 0, 1);
         x.reserve(2, 50);
         x.reserve(1, 60);
         x.reserve(0, 50);
@@ -998,7 +966,7 @@ public final class PromiseTest {
 
     private static void setting() {
         begin("24 setting");
-        ForgettingArchive x = new ForgettingArchive();
+        Archive x = new Archive();
         x.set(5, 20);
         x.set(0, 31);
         due("LOYAL", x.setting(ForgettingArchive.LOYAL), 20);
@@ -1014,7 +982,7 @@ public final class PromiseTest {
 
     private static void meanAge() {
         begin("25 meanAge");
-        ForgettingArchive x = new ForgettingArchive();
+        Archive x = new Archive();
         due("without files", x.meanAge(), 0.0f);
         x.add(4, 1);
         due("on its day", x.meanAge(), 0.0f);
@@ -1029,7 +997,7 @@ public final class PromiseTest {
 
     private static void stays() {
         begin("26 stays");
-        ForgettingArchive x = withFiles(6, 0, 1);
+        Archive x = Archive.withFiles(6, 0, 1);
         x.seal(0, 0, -1);
         x.reserve(0, 200);
         x.reserve(1, 200);
@@ -1066,7 +1034,7 @@ public final class PromiseTest {
 
     private static void keeper() {
         begin("27 keeper");
-        ForgettingArchive x = withFiles(6, 0, 1);
+        Archive x = Archive.withFiles(6, 0, 1);
         x.set(0, 30);
         x.refer(0, 1);
         x.refer(1, 1);
@@ -1094,7 +1062,7 @@ public final class PromiseTest {
 
     private static void burntIn() {
         begin("28 burntIn");
-        ForgettingArchive x = withFiles(1, 0, 1);
+        Archive x = Archive.withFiles(1, 0, 1);
         x.add(1, 1);
         due("burntIn(0)", x.burntIn(0), 90);
         due("burntIn(1)", x.burntIn(1), 180);
@@ -1116,7 +1084,7 @@ public final class PromiseTest {
         due("nothing is changed", x.count(8), 1);
         due("nor is now", x.now(), 89);
 
-        ForgettingArchive far = withFiles(1, 4, 1);
+        Archive far = Archive.withFiles(1, 4, 1);
         far.set(4, 1500);
         far.set(5, 1);
         far.ask(0);
@@ -1131,8 +1099,8 @@ public final class PromiseTest {
         due("in 3000 days", far.burntIn(0), 3000);
 
         // Days after 9999 are like others, and seals without an end still hold on them.
-        ForgettingArchive late = new ForgettingArchive();
-        letPass(late, 9999);
+        Archive late = new Archive();
+        late.letPass(9999);
         late.add(0, 1);
         late.add(1, 1);
         late.add(0, 1);
@@ -1146,7 +1114,7 @@ public final class PromiseTest {
 
     private static void ifPassed() {
         begin("29 ifPassed");
-        ForgettingArchive x = withFiles(2, 0, 7);
+        Archive x = Archive.withFiles(2, 0, 7);
         x.add(1, 20);
         x.reserve(0, 10);
         x.reserve(2, 10);
@@ -1168,13 +1136,13 @@ public final class PromiseTest {
             due("ifPassed(extreme, 0)", x.ifPassed(extreme, 0), BAD_VALUE);
             due("ifPassed(1, extreme)", x.ifPassed(1, extreme), BAD_VALUE);
         }
-        check.holds(promise + "nothing is changed", before.equals(seen(x)));
+        check.holds("nothing is changed", before.equals(seen(x)));
         x.pass(90);
         x.ask(2);
         due("only what would be added counts", x.ifPassed(1, 0) + x.ifPassed(1, 1) + x.ifPassed(1, 2), 0);
 
-        ForgettingArchive late = new ForgettingArchive();
-        letPass(late, 9999);
+        Archive late = new Archive();
+        late.letPass(9999);
         late.add(0, 3);
         late.add(0, 5);
         late.seal(0, 1, -1);
@@ -1185,7 +1153,7 @@ public final class PromiseTest {
 
     private static void errorsChangeNothing() {
         begin("errors");
-        ForgettingArchive x = withFiles(2, 0, 1);
+        Archive x = Archive.withFiles(2, 0, 1);
         x.seal(0, 0, 5);
         x.refer(0, 1);
         x.reserve(1, 9);
@@ -1207,7 +1175,7 @@ public final class PromiseTest {
         x.set(0, 29);
         x.set(7, 1);
         x.run();
-        check.holds(promise + "nothing is changed", before.equals(seen(x)));
-        due("nor is the history", historyOf(x), 4);
+        check.holds("nothing is changed", before.equals(seen(x)));
+        due("nor is the history", x.usedUpHistory(), 4);
     }
 }
